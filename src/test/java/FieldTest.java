@@ -122,6 +122,17 @@ public final class FieldTest {
         fault(FACTS + HUT + "path 5 5 5;", 28, 1);
         fault(FACTS + HUT + ";", 28, 1);
         fault(FACTS + HUT + "house", 33, 1);
+        fault("facts 0 8 " + HUT, 10, 1);
+        fault(FACTS + "wall 1 1 wall 2 2;" + HUT, 19, 1);
+        fault(FACTS + "wall 1 1 path 2 2 2;" + HUT, 19, 1);
+        fault(FACTS + "wall 1 1 " + HUT, 19, 1);
+        fault(FACTS + "path 1 1 1 path 2 2 2;" + HUT, 21, 1);
+        fault(FACTS + "path 1 1 1 " + HUT, 21, 1);
+        fault(FACTS + "house hut 0 0 1 1 " + HUT, 28, 1);
+        fault(FACTS + "tall 1 1;" + HUT, 10, 1);
+        fault(FACTS + "mouse hut 0 0 1 1;", 10, 1);
+        fault(FACTS + "house but 0 0 1 1;", 16, 1);
+        fault(FACTS + "house jubge 0 0 1 1;", 16, 1);
         right(FACTS + "wall 1 1;path 1 1 1;path 2 0 15;" + HUT, 1);
         right(FACTS + HUT, 1);
     }
@@ -241,6 +252,8 @@ public final class FieldTest {
         Check.due("clay", x.house(3, 5), 0);
         Check.due("a path in the brook", x.house(4, 5), 1);
         Check.due("below the field", x.house(5, 5), 0);
+        LieSlides y = Check.with("facts 0 8;path 1 0 9;house hut 0 1 1 1;house hut 0 0 1 1;");
+        Check.due("the house 0 on a path", y.house(1, 5), 0);
     }
 
     private static void boxes() {
@@ -261,6 +274,10 @@ public final class FieldTest {
         Check.due("the east end", z.house(2, 6), 0);
         LieSlides w = Check.with("facts 0 15;wall 0 1;house inn 1 1 1 1;house hut 2 1 1 1;");
         Check.due("a wall", w.house(0, 6), 0);
+        LieSlides v = Check.with("facts 0 15;house hut 0 0 1 1;house hut 1 0 1 1;house hut 2 0 1 1;house hut 0 1 1 1;");
+        Check.due("by 0 and 2", v.house(1, 6), 1);
+        LieSlides u = Check.with("facts 0 15;house hut 2 0 1 1;house hut 1 0 1 1;house hut 0 0 1 1;");
+        Check.due("by 2 and 0", u.house(1, 6), 1);
     }
 
     private static void cells() {
@@ -275,6 +292,14 @@ public final class FieldTest {
         Check.due("the first of the brook", x.cell(8), -3);
         Check.due("clay", x.cell(7), -4);
         Check.due("the last cell", x.cell(127), -3);
+        Check.due("cell 0", x.cell(0), -4);
+        LieSlides y = Check.with("facts 0 15;path 0 1 2;path 0 4 4;path 0 2 3;house hut 9 7 1 1;");
+        int[] due = {-4, -2, -2, -2, -2, -4};
+        for (int c = 0; c < due.length; c++) {
+            Check.due("paths of one row, " + c, y.cell(c), due[c]);
+        }
+        Check.read(y, "facts 0 15;house hut 9 7 1 1;");
+        Check.due("no path of the field before", y.cell(1), -4);
         Check.due("cell 128", x.cell(128), LieSlides.BAD);
         Check.due("cell -1", x.cell(-1), LieSlides.BAD);
     }

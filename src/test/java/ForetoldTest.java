@@ -4,6 +4,7 @@ public final class ForetoldTest {
 
     public static void main(String[] args) {
         sets();
+        standsThatAreNone();
         guesses();
         refused();
         nothingChanges();
@@ -42,7 +43,41 @@ public final class ForetoldTest {
         Check.due("all of eight", y.lies(0, 8, 1, -1), 1);
     }
 
+    /** An X beyond the field is not the X of the same lowest bits, nor lends bits to the next house. */
+    private static void standsThatAreNone() {
+        LieSlides x = Check.with("facts 0 15;house hut 1 0 1 1;house hut 3 1 1 1;house hut 0 2 1 1;house hut 0 3 1 1;"
+                + "house hut 0 4 1 1;house hut 3 5 1 1;");
+        x.row(0, 0, 1);
+        Check.fill(x, 1, 2, 1, 3, 0, 0, 0, 3);
+        Check.due("as it stands", x.lies(0, 1, 1, -1), 1);
+        int[][] wrong = {{0, 16}, {0, 17}, {1, 19}, {2, 16}, {4, 16}, {0, -15}, {5, 19}, {5, 4099}, {5, 3 - 4096}, {0, 257},
+            {5, Integer.MIN_VALUE + 3}, {0, Integer.MIN_VALUE + 1}};
+        int[] right = {1, 3, 0, 0, 0, 3};
+        for (int[] w : wrong) {
+            x.set(1, w[0], w[1]);
+            Check.due("X " + w[1] + " of " + w[0], x.lies(0, 1, 1, -1), 0);
+            Check.due("fewest by X " + w[1] + " of " + w[0], x.guess(0, 1, 1, 0), LieSlides.NONE);
+            x.set(1, w[0], right[w[0]]);
+        }
+        Check.due("right again", x.lies(0, 1, 1, 0), 0);
+    }
+
+    /** The fewest lies are not always the least set: by waiting, 0 pushes 1 itself. */
+    private static void fewestIsNotTheLeast() {
+        LieSlides x = Check.with("facts 0 15;house hut 2 0 2 1;house hut 4 0 1 1;");
+        Check.fill(x, 0, 0, 1, 1, 0, 1);
+        Check.fill(x, 1, 0, 3, 6);
+        int[] sets = {7, 12, 13, 14, LieSlides.NONE};
+        for (int i = 0; i < sets.length; i++) {
+            Check.due("set " + i, x.lies(0, 4, 1, i), sets[i]);
+        }
+        Check.due("fewest", x.guess(0, 4, 1, 0), 12);
+        Check.due("sure", x.guess(0, 4, 1, 1), 4);
+        Check.due("question", x.guess(0, 4, 1, 2), 0);
+    }
+
     private static void guesses() {
+        fewestIsNotTheLeast();
         LieSlides x = Check.with(TWO);
         Check.fill(x, 0, 0, 0, 0, 0, 1);
         Check.fill(x, 1, 0, 2, 4);

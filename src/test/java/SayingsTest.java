@@ -98,6 +98,11 @@ public final class SayingsTest {
         Check.due("stand", x.house(1, 0), 1);
         Check.due("undo a truth", x.undo(), 4);
         Check.due("stand", x.house(1, 0), 1);
+        LieSlides z = Check.with("facts 255 15;house hut 0 0 1 1;house hut 0 1 1 1;house hut 0 2 1 1;house hut 0 3 1 1;"
+                + "house hut 0 4 1 1;house hut 0 5 1 1;");
+        Check.fill(z, 1, 0, 95, 94, 80, 64, 63, 32, 16, 14, 0);
+        Check.due("the houses of items", z.talk(1, 0, 9), 7);
+        Check.dueAll("stands", Check.xs(z), 2, 1, 1, 0, 1, 2);
         LieSlides y = Check.with("facts 0 15;wall 1 0;house hut 0 0 1 1;house hut 0 1 1 1;");
         Check.fill(y, 7, 2, new int[40]);
         for (int k = 0; k < 40; k++) {
