@@ -531,10 +531,6 @@ public final class LieSlides {
             return (paths[y] >> x & 1) != 0;
         }
 
-        private boolean hasRow(int house, int y) {
-            return y >= ys[house] && y < ys[house] + highs[house];
-        }
-
         private boolean hasColumn(int stands, int house, int x) {
             int first = xOf(stands, house);
             return x >= first && x < first + wides[house];
@@ -543,7 +539,8 @@ public final class LieSlides {
         /** The house that has a cell; -1 if none. */
         private int houseAt(int x, int y) {
             for (int h = 0; h < houses; h++) {
-                if (hasRow(h, y) && hasColumn(xs, h, x)) {
+                int first = xOf(xs, h);
+                if (x >= first && x < first + wides[h] && y >= ys[h] && y < ys[h] + highs[h]) {
                     return h;
                 }
             }
