@@ -157,6 +157,16 @@ public final class ForetoldBoundsTest {
                 dueSets("X " + v + " of " + h, x, 2);
             }
         }
+        // 16 of one house is not one X more of the next
+        LieSlides z = withSaid(SIX, 0, 1, 2, 3, 4, 5);
+        Check.fill(z, 1, 2, 0, 0, 0, 0, 0, 0);
+        for (int h = 0; h < 6; h++) {
+            z.set(1, h, 16);
+            dueSets("X 16 of " + h, z, 6);
+            z.set(1, h, 17);
+            dueSets("X 17 of " + h, z, 6);
+            z.set(1, h, 0);
+        }
         LieSlides y = withSaid("facts 0 8;house hut 14 0 1 1;house hut 15 1 1 1;", 0, 1, 0);
         Check.fill(y, 1, 0, 15, 15);
         Check.due("X 15", y.lies(0, 3, 1, -1), 6);

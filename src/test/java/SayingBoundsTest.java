@@ -131,6 +131,23 @@ public final class SayingBoundsTest {
             Check.due("all that stand east of " + h, six.say(h, 1), (2 << h) - 1);
             six.undo();
         }
+        sixAtAWall();
+    }
+
+    /** The one at the wall is the last that is come to, from either side of the numbers. */
+    private static void sixAtAWall() {
+        LieSlides falling = Check.with("facts 0 15;wall 7 0;house hut 5 0 1 1;house hut 4 0 1 1;house hut 3 0 1 1;house hut 2 0 1 1;"
+                + "house hut 1 0 1 1;house hut 0 0 1 1;");
+        LieSlides rising = Check.with("facts 0 15;wall 7 0;house hut 0 0 1 1;house hut 1 0 1 1;house hut 2 0 1 1;house hut 3 0 1 1;"
+                + "house hut 4 0 1 1;house hut 5 0 1 1;");
+        Check.due("six up to the wall", falling.say(5, 1), 63);
+        Check.due("six up to the wall", rising.say(0, 1), 63);
+        for (int h = 0; h < 6; h++) {
+            Check.due("the wall stops all from " + h, falling.say(h, 1), 0);
+            Check.due("the wall stops all from " + h, rising.say(h, 1), 0);
+        }
+        Check.dueAll("nothing slid", Check.xs(falling), 6, 5, 4, 3, 2, 1);
+        Check.dueAll("nothing slid", Check.xs(rising), 1, 2, 3, 4, 5, 6);
     }
 
     /** "DROWNED, if a CELL of it is in the brook". */
@@ -211,6 +228,8 @@ public final class SayingBoundsTest {
             Check.due("by a house, its X " + (2 + k), house.house(0, OPEN), open[k]);
             house.say(0, 1);
         }
+        LieSlides first = Check.with("facts 0 15;path 1 0 15;house hut 2 1 1 1;house hut 2 0 1 1;");
+        Check.due("by the house 0", first.house(1, OPEN), 0);
         LieSlides ends = Check.with("facts 0 8;path 1 0 15;house hut 0 0 1 1;house hut 15 0 1 1;");
         Check.due("X 0", ends.house(0, OPEN), 1);
         Check.due("X 15, in the brook", ends.house(1, OPEN), 1);
@@ -246,6 +265,8 @@ public final class SayingBoundsTest {
         Check.due("an X apart", Check.with("facts 0 15;" + three + east + "house hut 3 2 1 3;").house(0, BOXED), 0);
         Check.due("several houses", Check.with("facts 0 15;" + three + east
                 + "house hut 4 2 1 1;house hut 3 3 2 1;house hut 1 4 4 1;").house(0, BOXED), 1);
+        Check.due("by the house 0 in the east", Check.with("facts 0 15;house hut 7 2 1 3;" + west + three).house(2, BOXED), 1);
+        Check.due("by the house 0 in the west", Check.with("facts 0 15;house hut 4 2 1 3;" + east + three).house(2, BOXED), 1);
         Check.due("drowned ones box, too", Check.with("facts 0 8;house inn 9 2 1 1;house hut 8 2 1 1;house hut 10 2 1 1;")
                 .house(0, BOXED), 1);
     }

@@ -149,12 +149,15 @@ public final class TextBoundsTest {
         fault("factsz 0 15;" + HUT, 0, 1);
         fault("fact 0 15;" + HUT, 0, 1);
         fault("f acts 0 15;" + HUT, 0, 1);
+        fault("pacts 0 15;" + HUT, 0, 1);
+        fault("factz 0 15;" + HUT, 0, 1);
         String[] noWords = {"walls 1 1;", "wal 1 1;", "awall 1 1;", "Wall 1 1;", "paths 1 1 1;", "pat 1 1 1;", "houses hut 0 0 1 1;",
-            "hous hut 0 0 1 1;", "facts 0 8;", "hut 0 0 1 1;", "z;", "aaaaaaaaaaaaaaaaaaaaaaaaaaaaaaaa;"};
+            "hous hut 0 0 1 1;", "tall 1 1;", "walk 1 1;", "bath 1 1 1;", "patz 1 1 1;", "mouse hut 0 0 1 1;", "housa hut 0 0 1 1;", "facts 0 8;", "hut 0 0 1 1;", "z;", "aaaaaaaaaaaaaaaaaaaaaaaaaaaaaaaa;"};
         for (String no : noWords) {
             faultBehind(FACTS, no + HUT, 1);
         }
-        String[] noSorts = {"judges", "judg", "inns", "in", "mills", "mil", "shops", "sho", "huts", "hu", "house", "wall", "Hut", "a"};
+        String[] noSorts = {"judges", "judg", "inns", "in", "mills", "mil", "shops", "sho", "huts", "hu", "house", "wall", "Hut", "a", "budge", "judga", "ann",
+            "ins", "bill", "mile", "chop", "shot", "but", "hug"};
         for (String no : noSorts) {
             faultBehind(FACTS + "house ", no + " 0 0 1 1;", 1);
         }
