@@ -26,6 +26,7 @@ public final class ForetoldBoundsTest {
         wantedK();
         wantedNotDrowned();
         wantedFirstRow();
+        wantedOfSixHouses();
         brookNoLies();
         brookOneToFifteen();
         brookStopped();
@@ -423,6 +424,18 @@ public final class ForetoldBoundsTest {
         LieSlides w = Check.with("facts 0 15;wall 8 2;house judge 3 2 1 1;house hut 3 1 1 1;house inn 4 1 1 2;");
         dueWanted(w, 2, 7, 0, 0, 0);
         Check.due("the wall", w.wanted(2, 8, -1), NONE);
+    }
+
+    /** All of the six are tried, and no more than these. */
+    private static void wantedOfSixHouses() {
+        LieSlides x = Check.with("facts 0 15;wall 1 5;house hut 0 5 1 1;house hut 0 0 1 1;house hut 0 1 1 1;house hut 0 2 1 1;"
+                + "house hut 0 3 1 1;house hut 11 7 1 1;");
+        dueWanted(x, 5, 15, 5, 5, 5, 5);
+        Check.due("none of six", x.wanted(0, 1, -1), NONE);
+        Check.due("none of six by four", x.wanted(1, 5, -1), NONE);
+        LieSlides y = Check.with("facts 0 8;house inn 8 0 1 1;house hut 15 1 1 1;house hut 15 2 1 1;house hut 15 3 1 1;"
+                + "house hut 15 4 1 1;house hut 7 0 1 1;");
+        dueWanted(y, 0, 9, 5);
     }
 
     /** BROOK of one that is drowned already: no lie. */
