@@ -22,6 +22,9 @@ public final class LanguageTest {
         Check.due("all signs are 10 or 32 to 126", source.matches("[\n -~]*") ? 1 : 0, 1);
         publics(code);
         lengths(code);
+        library(code);
+        divisors(code);
+        newObjects(code);
         Check.end();
     }
 
@@ -33,6 +36,31 @@ public final class LanguageTest {
         }
         // the class, the constants in one line, the constructor, and the calls
         Check.due("how often public is written", publics, 3 + 24);
+    }
+
+    private static void everyMatch(String what, String code, String pattern, String allowed) {
+        Matcher m = Pattern.compile(pattern).matcher(code);
+        while (m.find()) {
+            Check.due(what + ": " + m.group().trim(), m.group(1).matches(allowed) ? 1 : 0, 1);
+        }
+    }
+
+    /** Rule 4, as far as the class uses it. */
+    private static void library(String code) {
+        String own = "LieSlides|Rows|Field|Reader|History|Foresight|Kinds|Bodies";
+        everyMatch("a name of the class's own, or of the library", code, "\\b([A-Z][a-z]\\w*)", own + "|String|Integer|Math|System");
+        everyMatch("a call that the rules list", code, "\\b((?:Integer|Math|System)\\.\\w+)",
+            "Integer\\.bitCount|Math\\.(?:min|max)|System\\.arraycopy");
+    }
+
+    /** Rule 7: no divisor can be 0, since each is a constant. */
+    private static void divisors(String code) {
+        everyMatch("a constant divisor", code, "[/%]=?\\s*([\\w.]+|\\([^)]*\\)|\\S)", "[1-9][0-9]*|[A-Z][A-Z_]*|\\(MOST_CLAIM \\+ 1\\)");
+    }
+
+    /** Rule 12: objects and arrays are made with the object alone, as its fields, so that no number of calls fills the room. */
+    private static void newObjects(String code) {
+        everyMatch("made with the object", code, "(?m)^(.*\\bnew\\b.*)$", " +(?:private )?final [\\w\\[\\]]+ \\w+ = (?:\\{?new [\\w\\[\\]* ()]+,? ?)+\\}?;");
     }
 
     /** A method begins with a line that ends in ") {" and is no statement, and ends with its brace. */
